@@ -251,7 +251,7 @@ public final class DungeonDesk {
         }
 
         void setGround(int place, int value) {
-            if (isCell(place)) {
+            if (place >= 0 && place < CELLS) {
                 ground[place] = value;
             }
         }
