@@ -99,12 +99,10 @@ public final class CellTest {
         check.due("a thing under the player", on.cell(2, 1, 4), 3);
         on.key('g');
         check.due("taken", on.cell(2, 1, 4), 0);
-        Desk won = new Desk(241);
-        won.keys("lgllaljlllkgllallllllgahhhhj>gkgbhjahh>llllljgallgakkhgahkkk>");
+        Desk won = Games.won();
         check.due("the stairs under the player", won.cell(2, 6, 0), 2);
         check.due("the player on the stairs", won.cell(2, 6, 3), 1);
-        Desk dead = new Desk(1106);
-        dead.keys("llllklllkk");
+        Desk dead = Games.dead();
         check.due("the dead player is still there", dead.cell(7, 3, 3), 1);
         check.due("and sees", dead.cell(8, 3, 1), 1);
     }

@@ -13,11 +13,9 @@ public final class CountTest {
         Desk below = new Desk(805);
         below.keys("lllllllljjjgljghhhghhh>lg");
         countsAre("level 2, since the beginning", below, 24, 25, 1, 4, 1, 2, 50, 16, 34, 0, 19);
-        Desk dead = new Desk(1106);
-        dead.keys("llllklllkk");
+        Desk dead = Games.dead();
         countsAre("dead", dead, 10, 10, 1, 2, 1, 3, 36, 17, 49, 1, 14);
-        Desk won = new Desk(241);
-        won.keys("lgllaljlllkgllallllllgahhhhj>gkgbhjahh>llllljgallgakkhgahkkk>");
+        Desk won = Games.won();
         countsAre("won", won, 52, 61, 2, 4, 3, 0, 42, 6, 91, 2, 22);
         won.rewind(0);
         check.due("ticks begin anew", won.count(0), 0);

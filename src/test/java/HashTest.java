@@ -86,8 +86,7 @@ public final class HashTest {
 
     /** The document sets player(2) to 0 for the dead, but says no such thing of the health in the sum. */
     private static void theDeadPlayersHealth() {
-        Desk dead = new Desk(1106);
-        dead.keys("llllklllkk");
+        Desk dead = Games.dead();
         check.due("player(2)", dead.player(2), 0);
         check.due("health 1 less 2 is -1", dead.hash(), -6596070275968486527L);
         Desk even = new Desk(221);

@@ -2,9 +2,6 @@
 public final class KeyTest {
     private static final Check check = new Check();
 
-    private static final String DIES = "llllklllkk";
-    private static final String WINS = "lgllaljlllkgllallllllgahhhhj>gkgbhjahh>llllljgallgakkhgahkkk>";
-
     public static void main(String[] args) {
         goesTheFourWays();
         blockedKeysTakeNoTime();
@@ -221,10 +218,10 @@ public final class KeyTest {
     }
 
     private static void thePlayerDies() {
-        Desk desk = new Desk(1106);
-        check.due("dead", desk.keys(DIES), 3);
+        Desk desk = new Desk(Games.LOSER);
+        check.due("dead", desk.keys(Games.DIES), 3);
         overIs("dead", desk, 1);
-        check.due("recorded, too", desk.recorded(DIES.length() - 1), 'k');
+        check.due("recorded, too", desk.recorded(Games.DIES.length() - 1), 'k');
         Desk both = new Desk(1246);
         check.due("dead behind the key by which a monster went", both.keys("llllkkkkkk"), 3);
         check.due("it went all the same", both.count(2), 1);
@@ -284,12 +281,12 @@ public final class KeyTest {
     }
 
     private static void theGameIsWon() {
-        Desk desk = new Desk(241);
-        check.due("won", desk.keys(WINS), 4);
+        Desk desk = new Desk(Games.WINNER);
+        check.due("won", desk.keys(Games.WINS), 4);
         check.due("level", desk.player(6), 3);
         check.due("no time passed", desk.count(0), 52);
         check.due("hash", desk.hash(), -413289275983356015L);
         overIs("won", desk, 2);
-        check.due("recorded, too", desk.recorded(WINS.length() - 1), '>');
+        check.due("recorded, too", desk.recorded(Games.WINS.length() - 1), '>');
     }
 }

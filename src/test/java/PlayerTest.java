@@ -19,11 +19,9 @@ public final class PlayerTest {
         one.key('g');
         check.due("one thing", one.player(10), 0);
         check.due("and no second", one.player(11), DungeonDesk.NONE);
-        Desk dead = new Desk(1106);
-        dead.keys("llllklllkk");
+        Desk dead = Games.dead();
         playerIs("dead by an orc with health 1", dead, 7, 3, 0, 1, 10, 0, 1, 0);
-        Desk won = new Desk(241);
-        won.keys("lgllaljlllkgllallllllgahhhhj>gkgbhjahh>llllljgallgakkhgahkkk>");
+        Desk won = Games.won();
         playerIs("won", won, 2, 6, 9, 3, 10, 0, 3, 0);
         for (int what : new int[] {-1, 8, 9, 14, 15, 110, Integer.MIN_VALUE, Integer.MAX_VALUE}) {
             check.due("player(" + what + ")", bag.player(what), DungeonDesk.REFUSED);

@@ -4,11 +4,10 @@ import java.util.List;
 /** Promise 3: any earlier state comes back. */
 public final class RewindTest {
     private static final Check check = new Check();
-    private static final String WINS = "lgllaljlllkgllallllllgahhhhj>gkgbhjahh>llllljgallgakkhgahkkk>";
 
     public static void main(String[] args) {
-        everyStateComesBack(241, WINS);
-        everyStateComesBack(1106, "llllklllkk");
+        everyStateComesBack(Games.WINNER, Games.WINS);
+        everyStateComesBack(Games.LOSER, Games.DIES);
         everyStateComesBack(1, "kk>hhgabcd.");
         wrongNumbersChangeNothing();
         theOthersAreRecordedNoMore();
@@ -66,13 +65,11 @@ public final class RewindTest {
     }
 
     private static void aGameThatIsOverGoesOn() {
-        Desk dead = new Desk(1106);
-        dead.keys("llllklllkk");
+        Desk dead = Games.dead();
         check.due("dead", dead.rewind(9), 9);
         check.due("not dead", dead.count(9), 0);
         check.due("goes on", dead.key('.') != DungeonDesk.REFUSED ? 1 : 0, 1);
-        Desk won = new Desk(241);
-        won.keys(WINS);
+        Desk won = Games.won();
         check.due("won", won.rewind(0), 0);
         check.due("not won", won.count(9), 0);
         check.due("level", won.player(6), 1);

@@ -1,0 +1,24 @@
+/** Games that several tests play. */
+final class Games {
+    /** With WINNER: goes down twice, uses things of all levels, and wins. */
+    static final String WINS = "lgllaljlllkgllallllllgahhhhj>gkgbhjahh>llllljgallgakkhgahkkk>";
+    static final int WINNER = 241;
+    /** With LOSER: a rat goes, and an orc then brings the player from health 1 to -1. */
+    static final String DIES = "llllklllkk";
+    static final int LOSER = 1106;
+
+    private Games() {
+    }
+
+    static Desk won() {
+        Desk desk = new Desk(WINNER);
+        desk.keys(WINS);
+        return desk;
+    }
+
+    static Desk dead() {
+        Desk desk = new Desk(LOSER);
+        desk.keys(DIES);
+        return desk;
+    }
+}
