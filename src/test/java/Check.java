@@ -17,6 +17,11 @@ final class Check {
         due(what, is ? 1 : 0, 1);
     }
 
+    /** What is asked under the document's own words tells them, if an answer is wrong. */
+    Sentence says(String words) {
+        return new Sentence(this, words);
+    }
+
     int wrong() {
         return wrong;
     }

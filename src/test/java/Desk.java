@@ -18,6 +18,13 @@ final class Desk {
         desk = new DungeonDesk(seed);
     }
 
+    /** A new game in which these keys were pressed. */
+    static Desk after(int seed, String keys) {
+        Desk desk = new Desk(seed);
+        desk.keys(keys);
+        return desk;
+    }
+
     private DungeonDesk fresh() {
         if (calls >= PROMISED) {
             desk = new DungeonDesk(seed);
@@ -81,6 +88,15 @@ final class Desk {
 
     int count(int what) {
         return fresh().count(what);
+    }
+
+    /** The seed and the calls that changed it, so that a wrong answer can be asked for again. */
+    String told() {
+        StringBuilder text = new StringBuilder("seed " + seed + " behind \"");
+        for (int[] change : changes) {
+            text.append(change[0] == 0 ? String.valueOf((char) change[1]) : " rewind(" + change[1] + ") ");
+        }
+        return text.append('"').toString();
     }
 
     /** How many calls have changed it: a test keeps this below what is promised. */

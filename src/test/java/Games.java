@@ -11,14 +11,10 @@ final class Games {
     }
 
     static Desk won() {
-        Desk desk = new Desk(WINNER);
-        desk.keys(WINS);
-        return desk;
+        return Desk.after(WINNER, WINS);
     }
 
     static Desk dead() {
-        Desk desk = new Desk(LOSER);
-        desk.keys(DIES);
-        return desk;
+        return Desk.after(LOSER, DIES);
     }
 }

@@ -108,7 +108,7 @@ final class Model {
         return (int) ((play >>> 33) % n);
     }
 
-    private void make(int d) {
+    void make(int d) {
         depth = d;
         making = BigInteger.valueOf(seed).add(BigInteger.ONE).multiply(BigInteger.valueOf(1000003))
                 .add(BigInteger.valueOf(d)).longValue();
