@@ -10,12 +10,12 @@ public final class EdgesOfMonstersTest {
         actsWithTenEnergy();
         ratTakesTheFirstOfTheLeast();
         ratStaysWithoutALesserNeighbour();
+        ratWithoutAnyNeighbour();
         ratHits();
         orcComesToo();
         orcWithThreeFights();
         orcWithTwoFlees();
         orcWithoutAWayDoesNothing();
-        orcWithoutAnyNeighbour();
         batHits();
         batFliesAnyWay();
         batAtAWall();
@@ -43,13 +43,14 @@ public final class EdgesOfMonstersTest {
         says.monster(rows, 2, 5, 1);
     }
 
-    /** All of them acted, and their lines are clear. */
+    /** Both of them acted, and their lines are clear. */
     private static void sleepsFiveAway() {
         Sentence says = check.says("at most 4 COLUMNS and ROWS from the PLAYER");
         Desk columns = Desk.after(19, "l");
-        says.monster(columns, 0, 5, 0);
+        says.playerAt(columns, 4, 3);
+        says.monsterAt(columns, 1, 9, 3);
+        says.monster(columns, 1, 4, 4);
         says.monster(columns, 1, 5, 0);
-        says.monster(columns, 2, 5, 0);
         Desk rows = Desk.after(1125, "lll");
         says.playerAt(rows, 7, 2);
         says.monsterAt(rows, 2, 9, 7);
@@ -184,16 +185,18 @@ public final class EdgesOfMonstersTest {
         says.player(corner, 2, 6);
     }
 
-    /** A bat and a rat stand at its free sides, all others are walls. */
-    private static void orcWithoutAnyNeighbour() {
+    /** An orc below it and a rat to the left, walls above and to the right. */
+    private static void ratWithoutAnyNeighbour() {
         Sentence says = check.says("looks at the NEIGHBOURS that are FLOOR without a MONSTER");
-        Desk desk = Desk.after(1291, "lll");
-        says.monsterAt(desk, 0, 7, 1);
-        says.monster(desk, 0, 4, 8);
+        Desk desk = Desk.after(8607, "ll");
+        says.monsterAt(desk, 2, 9, 1);
+        says.monster(desk, 2, 5, 1);
+        says.monster(desk, 2, 4, 6);
         desk.key('l');
-        says.monster(desk, 0, 4, 4);
-        says.monsterAt(desk, 0, 7, 1);
-        says.player(desk, 2, 9);
+        says.monster(desk, 2, 4, 4);
+        says.monsterAt(desk, 0, 8, 1);
+        says.monsterAt(desk, 1, 9, 2);
+        says.monsterAt(desk, 2, 9, 1);
     }
 
     private static void batHits() {
