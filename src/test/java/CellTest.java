@@ -4,7 +4,8 @@ public final class CellTest {
 
     public static void main(String[] args) {
         theLevelAndWhoIsThere();
-        whatIsSeenAndKnown();
+        whatIsSeen();
+        whatIsKnown();
         distances();
         whoeverStandsThere();
         wrongNumbers();
@@ -18,8 +19,9 @@ public final class CellTest {
     }
 
     private static void theLevelAndWhoIsThere() {
+        Sentence ground = check.says("Of a CELL what 0: 0 a WALL, 1 FLOOR, 2 the STAIRS");
         Desk desk = corridor();
-        Picture.due(check, "ground", desk, 0,
+        ground.picture(desk, 0,
             "############",
             "#....##...##",
             "#.........##",
@@ -30,7 +32,8 @@ public final class CellTest {
             "#.........##",
             "#.>####...##",
             "############");
-        Picture.due(check, "who", desk, 3,
+        Sentence who = check.says("3: 0 nobody, 1 the PLAYER, 2 + KIND a MONSTER");
+        who.picture(desk, 3,
             "            ",
             "            ",
             "      @oo   ",
@@ -43,9 +46,10 @@ public final class CellTest {
             "            ");
     }
 
-    private static void whatIsSeenAndKnown() {
+    private static void whatIsSeen() {
+        Sentence says = check.says("1: 1 if it is SEEN now, else 0");
         Desk desk = corridor();
-        Picture.due(check, "seen", desk, 1,
+        says.picture(desk, 1,
             "--x----xxxx-",
             "--xxxxxxxxx-",
             "--xxxxxxxxx-",
@@ -56,7 +60,14 @@ public final class CellTest {
             "------------",
             "------------",
             "------------");
-        Picture.due(check, "known", desk, 2,
+        desk.rewind(0);
+        says.cell(desk, 6, 1, 1, 0);
+        says.cell(desk, 1, 1, 1, 1);
+    }
+
+    private static void whatIsKnown() {
+        Sentence says = check.says("2: 1 if it is KNOWN, else 0");
+        says.picture(corridor(), 2,
             "xxxxxx-xxxx-",
             "xxxxxxxxxxx-",
             "xxxxxxxxxxx-",
@@ -70,6 +81,7 @@ public final class CellTest {
     }
 
     private static void distances() {
+        Sentence says = check.says("5: its DISTANCE (NONE for a WALL)");
         Desk desk = corridor();
         int[][] due = {
             {-2, -2, -2, -2, -2, -2, -2, -2, -2, -2, -2, -2},
@@ -84,7 +96,7 @@ public final class CellTest {
             {-2, -2, -2, -2, -2, -2, -2, -2, -2, -2, -2, -2}};
         for (int y = 0; y < 10; y++) {
             for (int x = 0; x < 12; x++) {
-                check.due("distance of " + x + ", " + y, desk.cell(x, y, 5), due[y][x]);
+                says.cell(desk, x, y, 5, due[y][x]);
             }
         }
     }

@@ -3,20 +3,19 @@ public final class CountTest {
     private static final Check check = new Check();
 
     public static void main(String[] args) {
-        countsAre("new", new Desk(1), 0, 0, 0, 3, 0, 3, 39, 11, 26, 0, 21);
-        Desk desk = new Desk(-7);
-        desk.keys("llllllllj");
-        countsAre("a monster went", desk, 8, 9, 1, 2, 1, 2, 41, 12, 56, 0, 16);
-        Desk hasty = new Desk(20);
-        hasty.keys("ga........");
-        countsAre("haste", hasty, 6, 10, 0, 2, 0, 2, 32, 9, 20, 0, 18);
-        Desk below = new Desk(805);
-        below.keys("lllllllljjjgljghhhghhh>lg");
-        countsAre("level 2, since the beginning", below, 24, 25, 1, 4, 1, 2, 50, 16, 34, 0, 19);
-        Desk dead = Games.dead();
-        countsAre("dead", dead, 10, 10, 1, 2, 1, 3, 36, 17, 49, 1, 14);
+        Sentence says = check.says("What 0: TICKS since the beginning, 1: RECORDED KEYS, 2: MONSTERS that went by the "
+            + "PLAYER since the beginning, 3: MONSTERS on this LEVEL, 4: awake ones of these, 5: THINGS on this LEVEL, "
+            + "6: FLOOR CELLS, 7: those SEEN, 8: CELLS KNOWN; 9: 1 if DEAD, 2 if WON, else 0; "
+            + "10: the greatest DISTANCE");
+        says.countsAre(new Desk(1), 0, 0, 0, 3, 0, 3, 39, 11, 26, 0, 21);
+        Desk desk = Desk.after(-7, "llllllllj");
+        says.countsAre(desk, 8, 9, 1, 2, 1, 2, 41, 12, 56, 0, 16);
+        says.countsAre(Desk.after(20, "ga........"), 6, 10, 0, 2, 0, 2, 32, 9, 20, 0, 18);
+        Desk below = Desk.after(805, "lllllllljjjgljghhhghhh>lg");
+        says.countsAre(below, 24, 25, 1, 4, 1, 2, 50, 16, 34, 0, 19);
+        says.countsAre(Games.dead(), 10, 10, 1, 2, 1, 3, 36, 17, 49, 1, 14);
         Desk won = Games.won();
-        countsAre("won", won, 52, 61, 2, 4, 3, 0, 42, 6, 91, 2, 22);
+        says.countsAre(won, 52, 61, 2, 4, 3, 0, 42, 6, 91, 2, 22);
         won.rewind(0);
         check.due("ticks begin anew", won.count(0), 0);
         check.due("those that went begin anew", won.count(2), 0);
@@ -24,11 +23,5 @@ public final class CountTest {
             check.due("count(" + what + ")", desk.count(what), DungeonDesk.REFUSED);
         }
         check.end();
-    }
-
-    private static void countsAre(String told, Desk desk, int... due) {
-        for (int what = 0; what < due.length; what++) {
-            check.due(told + ": count(" + what + ")", desk.count(what), due[what]);
-        }
     }
 }

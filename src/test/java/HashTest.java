@@ -9,11 +9,37 @@ public final class HashTest {
             check.due("new, seed " + seed, desk.hash(), Sums.hash(desk, seed));
             check.due("asking changes nothing", desk.hash(), Sums.hash(desk, seed));
         }
+        theNumbersInTheirOrder();
         fixedStates();
         thePartsThatAreTold();
         playIsPartOfIt();
         theDeadPlayersHealth();
         check.end();
+    }
+
+    /** New; in haste; with monster 0 gone and the next one awake; with a thing in the bag. */
+    private static void theNumbersInTheirOrder() {
+        Sentence says = check.says("One number for the state: h is 17 first, then, for each of these numbers in turn, "
+            + "h times 1000003 and it (wrapping): LEVEL; COLUMN, ROW, HEALTH, HIT, ENERGY, HASTE of the PLAYER; "
+            + "how many THINGS are in the BAG, their KINDS; for each MONSTER that is not gone, by numbers, its KIND, "
+            + "COLUMN, ROW, HEALTH, ENERGY, and 1 if it is awake, else 0; for each CELL with a THING, ROW by ROW from "
+            + "the top, each from COLUMN 0 on, 16 * ROW + COLUMN and its KIND; PLAY");
+        says.hash(new Desk(1), sum(1, 2, 2, 10, 1, 10, 0, 0, 2, 3, 8, 2, 0, 0, 1, 9, 8, 6, 0, 0, 0, 3, 7, 3, 0, 0,
+            16 * 2 + 8, 3, 16 * 2 + 9, 1, 16 * 8 + 3, 2, 1));
+        says.hash(Desk.after(20, "ga"), sum(1, 2, 2, 10, 1, 20, 5, 0, 1, 7, 2, 6, 2, 0, 2, 7, 3, 2, 8, 0,
+            16 * 1 + 3, 1, 16 * 7 + 2, 1, 20));
+        says.hash(Desk.after(1106, "llllklll"), sum(1, 7, 3, 3, 1, 10, 0, 0, 1, 7, 2, 5, 8, 1, 1, 4, 7, 6, 8, 0,
+            16 * 3 + 3, 1, 16 * 8 + 3, 2, 16 * 8 + 9, 1, 1106));
+        says.hash(Desk.after(87, "g"), sum(1, 3, 2, 10, 1, 10, 0, 1, 0, 0, 9, 7, 3, 8, 0, 2, 8, 1, 2, 4, 0, 0, 8, 7, 3,
+            8, 0, 16 * 2 + 7, 0, 16 * 3 + 2, 0, 87));
+    }
+
+    private static long sum(long... numbers) {
+        long h = 17;
+        for (long number : numbers) {
+            h = h * 1000003 + number;
+        }
+        return h;
     }
 
     private static void fixedStates() {

@@ -3,6 +3,7 @@ public final class KeyTest {
     private static final Check check = new Check();
 
     public static void main(String[] args) {
+        answers();
         goesTheFourWays();
         blockedKeysTakeNoTime();
         otherNumbersAreRefused();
@@ -25,6 +26,16 @@ public final class KeyTest {
     private static void at(String told, Desk desk, int x, int y) {
         check.due(told + ": column", desk.player(0), x);
         check.due(told + ": row", desk.player(1), y);
+    }
+
+    private static void answers() {
+        Sentence says = check.says("A KEY: 0 if it was BLOCKED, 1 if it was done, 2 if a MONSTER went by it, "
+            + "3 if the PLAYER is DEAD behind it, 4 if the game is WON");
+        says.key(Desk.after(1, "h"), 'h', 0);
+        says.key(new Desk(1), 'h', 1);
+        says.key(Desk.after(726, "lll"), 'l', 2);
+        says.key(Desk.after(221, "llllll"), 'l', 3);
+        says.key(Desk.after(Games.WINNER, Games.WINS.substring(0, Games.WINS.length() - 1)), '>', 4);
     }
 
     private static void goesTheFourWays() {

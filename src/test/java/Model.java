@@ -61,7 +61,6 @@ final class Model {
 
     final int seed;
     final Seen seen;
-    long making;
     long play;
     int depth;
     boolean[][] floor;
@@ -91,88 +90,31 @@ final class Model {
         learn();
     }
 
-    private static long next(long stream) {
-        return BigInteger.valueOf(stream)
-                .multiply(new BigInteger("6364136223846793005"))
-                .add(new BigInteger("1442695040888963407"))
-                .longValue();
-    }
-
-    private int making(int n) {
-        making = next(making);
-        return (int) ((making >>> 33) % n);
-    }
-
     private int play(int n) {
-        play = next(play);
-        return (int) ((play >>> 33) % n);
+        play = Sums.drawn(play);
+        return Sums.answer(play, n);
     }
 
     void make(int d) {
+        Plan plan = new Plan(seed, d);
         depth = d;
-        making = BigInteger.valueOf(seed).add(BigInteger.ONE).multiply(BigInteger.valueOf(1000003))
-                .add(BigInteger.valueOf(d)).longValue();
-        floor = new boolean[12][10];
-        thing = new int[12][10];
+        floor = plan.floor;
+        stairsX = plan.stairsX;
+        stairsY = plan.stairsY;
+        x = plan.centreX(0);
+        y = plan.centreY(0);
         known = new boolean[12][10];
         beasts = new ArrayList<>();
-        int[][] room = new int[4][];
-        for (int i = 0; i < 4; i++) {
-            int w = 2 + making(3);
-            int h = 2 + making(2);
-            int left = 6 * (i % 2) + 1 + making(5 - w);
-            int top = 5 * (i / 2) + 1 + making(4 - h);
-            room[i] = new int[] {left, top, w, h};
-            for (int a = 0; a < w; a++) {
-                for (int b = 0; b < h; b++) {
-                    floor[left + a][top + b] = true;
-                }
+        for (int[] drawn : plan.monsters) {
+            if (beastAt(drawn[1], drawn[2]) == null) {
+                beasts.add(new Beast(drawn[0], drawn[1], drawn[2]));
             }
         }
-        way(room[0], room[1]);
-        way(room[1], room[3]);
-        way(room[3], room[2]);
-        stairsX = room[2][0] + making(room[2][2]);
-        stairsY = room[2][1] + making(room[2][3]);
-        x = room[0][0] + room[0][2] / 2;
-        y = room[0][1] + room[0][3] / 2;
-        for (int t = 0; t < 2 + d; t++) {
-            int kind = making(3);
-            int[] r = room[1 + making(3)];
-            int bx = r[0] + making(r[2]);
-            int by = r[1] + making(r[3]);
-            if (beastAt(bx, by) == null) {
-                beasts.add(new Beast(kind, bx, by));
-            }
-        }
-        for (int t = 0; t < 3; t++) {
-            int kind = making(4);
-            int[] r = room[making(4)];
-            int tx = r[0] + making(r[2]);
-            int ty = r[1] + making(r[3]);
-            boolean stairs = tx == stairsX && ty == stairsY;
-            if (thing[tx][ty] == 0 && !stairs) {
-                thing[tx][ty] = 1 + kind;
-            }
-        }
-    }
-
-    private void way(int[] from, int[] to) {
-        int a = from[0] + from[2] / 2;
-        int b = from[1] + from[3] / 2;
-        int c = to[0] + to[2] / 2;
-        int d = to[1] + to[3] / 2;
-        boolean zero = making(2) == 0;
-        for (int i = 0; i < 12; i++) {
-            for (int j = 0; j < 10; j++) {
-                boolean inColumns = (a <= i && i <= c) || (c <= i && i <= a);
-                boolean inRows = (b <= j && j <= d) || (d <= j && j <= b);
-                if (zero && (j == b && inColumns || i == c && inRows)) {
-                    floor[i][j] = true;
-                }
-                if (!zero && (i == a && inRows || j == d && inColumns)) {
-                    floor[i][j] = true;
-                }
+        thing = new int[12][10];
+        for (int[] drawn : plan.things) {
+            boolean stairs = drawn[1] == stairsX && drawn[2] == stairsY;
+            if (thing[drawn[1]][drawn[2]] == 0 && !stairs) {
+                thing[drawn[1]][drawn[2]] = 1 + drawn[0];
             }
         }
     }

@@ -13,8 +13,9 @@ public final class NewObjectTest {
     }
 
     private static void levelOneIsMade() {
+        Sentence says = check.says("The game begins: LEVEL 1 IS MADE with this seed");
         Desk desk = new Desk(1);
-        Picture.due(check, "seed 1", desk, 0,
+        says.picture(desk, 0,
             "############",
             "#...########",
             "#...####...#",
@@ -25,7 +26,7 @@ public final class NewObjectTest {
             "##..###....#",
             "##>........#",
             "############");
-        Picture.due(check, "seed 1", desk, 3,
+        says.picture(desk, 3,
             "            ",
             "            ",
             "  @         ",
@@ -36,7 +37,7 @@ public final class NewObjectTest {
             "   r        ",
             "   b     o  ",
             "            ");
-        Picture.due(check, "seed 1", desk, 4,
+        says.picture(desk, 4,
             "            ",
             "            ",
             "        31  ",
@@ -47,7 +48,7 @@ public final class NewObjectTest {
             "            ",
             "   2        ",
             "            ");
-        check.due("hash", desk.hash(), 8441662145234332200L);
+        says.hash(desk, 8441662145234332200L);
     }
 
     private static void aMonsterIsNotMadeWhereOneIs() {

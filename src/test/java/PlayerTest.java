@@ -3,35 +3,37 @@ public final class PlayerTest {
     private static final Check check = new Check();
 
     public static void main(String[] args) {
-        playerIs("new", new Desk(1), 2, 2, 10, 1, 10, 0, 1, 0);
-        Desk hasty = new Desk(20);
-        hasty.keys("ga");
-        playerIs("hasty", hasty, 2, 2, 10, 1, 20, 5, 1, 0);
-        Desk bag = new Desk(805);
-        bag.keys("lllllllljjjgljghhhghhh>lg");
-        playerIs("with a bag", bag, 4, 2, 8, 1, 10, 0, 2, 4);
-        int[] kinds = {2, 3, 0, 1};
-        for (int k = 0; k < 4; k++) {
-            check.due("thing " + k, bag.player(10 + k), kinds[k]);
-            check.due("no thing " + k, hasty.player(10 + k), DungeonDesk.NONE);
-        }
-        Desk one = new Desk(87);
-        one.key('g');
-        check.due("one thing", one.player(10), 0);
-        check.due("and no second", one.player(11), DungeonDesk.NONE);
-        Desk dead = Games.dead();
-        playerIs("dead by an orc with health 1", dead, 7, 3, 0, 1, 10, 0, 1, 0);
-        Desk won = Games.won();
-        playerIs("won", won, 2, 6, 9, 3, 10, 0, 3, 0);
-        for (int what : new int[] {-1, 8, 9, 14, 15, 110, Integer.MIN_VALUE, Integer.MAX_VALUE}) {
-            check.due("player(" + what + ")", bag.player(what), DungeonDesk.REFUSED);
-        }
+        numbers();
+        thingsInTheBag();
+        wrongNumbers();
         check.end();
     }
 
-    private static void playerIs(String told, Desk desk, int... due) {
-        for (int what = 0; what < due.length; what++) {
-            check.due(told + ": player(" + what + ")", desk.player(what), due[what]);
+    private static void numbers() {
+        Sentence says = check.says("Of the PLAYER what 0: COLUMN, 1: ROW, 2: HEALTH (0 if DEAD), 3: HIT, 4: ENERGY, "
+            + "5: HASTE, 6: the LEVEL, 7: how many THINGS are in the BAG");
+        says.playerIs(new Desk(1), 2, 2, 10, 1, 10, 0, 1, 0);
+        says.playerIs(Desk.after(20, "ga"), 2, 2, 10, 1, 20, 5, 1, 0);
+        says.playerIs(bearer(), 4, 2, 8, 1, 10, 0, 2, 4);
+        says.playerIs(Games.dead(), 7, 3, 0, 1, 10, 0, 1, 0);
+        says.playerIs(Games.won(), 2, 6, 9, 3, 10, 0, 3, 0);
+    }
+
+    private static Desk bearer() {
+        return Desk.after(805, "lllllllljjjgljghhhghhh>lg");
+    }
+
+    private static void thingsInTheBag() {
+        Sentence says = check.says("10 + k: the KIND of THING k (0 to 3; NONE if there is none)");
+        says.bag(bearer(), 2, 3, 0, 1);
+        says.bag(Desk.after(20, "ga"));
+        says.bag(Desk.after(87, "g"), 0);
+    }
+
+    private static void wrongNumbers() {
+        Desk bag = bearer();
+        for (int what : new int[] {-1, 8, 9, 14, 15, 110, Integer.MIN_VALUE, Integer.MAX_VALUE}) {
+            check.due("player(" + what + ")", bag.player(what), DungeonDesk.REFUSED);
         }
     }
 }

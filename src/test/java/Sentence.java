@@ -30,6 +30,11 @@ final class Sentence {
         due(desk, "cell(" + x + ", " + y + ", " + what + ")", desk.cell(x, y, what), want);
     }
 
+    /** All cells, as rows of characters. */
+    void picture(Desk desk, int what, String... rows) {
+        Picture.due(check, "\"" + words + "\": " + desk.told(), desk, what, rows);
+    }
+
     void monster(Desk desk, int i, int what, int want) {
         due(desk, "monster(" + i + ", " + what + ")", desk.monster(i, what), want);
     }
@@ -39,6 +44,13 @@ final class Sentence {
         monster(desk, i, 2, y);
     }
 
+    /** What 0 to 5 of a monster, in their order. */
+    void monsterIs(Desk desk, int i, int... wants) {
+        for (int what = 0; what < wants.length; what++) {
+            monster(desk, i, what, wants[what]);
+        }
+    }
+
     void player(Desk desk, int what, int want) {
         due(desk, "player(" + what + ")", desk.player(what), want);
     }
@@ -46,6 +58,13 @@ final class Sentence {
     void playerAt(Desk desk, int x, int y) {
         player(desk, 0, x);
         player(desk, 1, y);
+    }
+
+    /** What 0 to 7 of the player, in their order. */
+    void playerIs(Desk desk, int... wants) {
+        for (int what = 0; what < wants.length; what++) {
+            player(desk, what, wants[what]);
+        }
     }
 
     void bag(Desk desk, int... kinds) {
@@ -65,6 +84,13 @@ final class Sentence {
 
     void count(Desk desk, int what, int want) {
         due(desk, "count(" + what + ")", desk.count(what), want);
+    }
+
+    /** What 0 to 10 that is counted, in their order. */
+    void countsAre(Desk desk, int... wants) {
+        for (int what = 0; what < wants.length; what++) {
+            count(desk, what, wants[what]);
+        }
     }
 
     /** The calls change nothing that can be asked for. */

@@ -7,6 +7,12 @@ final class Sums {
     private Sums() {
     }
 
+    /** What MAKING is first for a level. */
+    static long making(int seed, int d) {
+        return BigInteger.valueOf(seed).add(BigInteger.ONE).multiply(BigInteger.valueOf(1000003))
+            .add(BigInteger.valueOf(d)).longValue();
+    }
+
     /** The stream behind one draw more. */
     static long drawn(long stream) {
         return BigInteger.valueOf(stream).multiply(new BigInteger("6364136223846793005"))
